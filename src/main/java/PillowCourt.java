@@ -848,7 +848,7 @@ public final class PillowCourt {
             start = place;
             if (place >= length) {
                 token = END;
-            } else if (isDigitAt(place)) {
+            } else if (isDigit(letters[place])) {
                 token = scanNumber();
             } else {
                 token = tokenOf(letters[place]);
@@ -856,15 +856,17 @@ public final class PillowCourt {
             }
         }
 
-        private boolean isDigitAt(int at) {
-            return at < length && letters[at] >= '0' && letters[at] <= '9';
+        private static boolean isDigit(int letter) {
+            return letter >= '0' && letter <= '9';
         }
 
         private int scanNumber() {
             number = 0;
-            while (place < length && isDigitAt(place)) {
-                // Held just above what may be told, so that no row of digits wraps around.
-                number = Math.min(number * 10 + letters[place] - '0', TOLD_NUMBER_MOST + 1);
+            while (place < length && isDigit(letters[place])) {
+                // Once beyond what may be told it stays there, so no row of digits wraps around.
+                if (number <= TOLD_NUMBER_MOST) {
+                    number = number * 10 + letters[place] - '0';
+                }
                 place++;
             }
             boolean hasZeroAhead = place - start > 1 && letters[start] == '0';

@@ -11,6 +11,8 @@ public final class CourtTest {
         faults();
         faultChangesNothing();
         readAnew();
+        readAgainAndAgain();
+        sixOfAll();
         people();
         safePillows();
         clashes();
@@ -176,6 +178,7 @@ public final class CourtTest {
         x.night(1);
         x.examines(4);
         x.notes(0, 0, 1);
+        x.keep(0);
         x.keep(1);
         x.rate(0, 0);
         DUE.is("court() of nothing", x.court(), 0);
@@ -186,7 +189,8 @@ public final class CourtTest {
         for (int what = 0; what < 6; what++) {
             DUE.is("anew now(" + what + ")", x.now(what), 0);
         }
-        DUE.is("images are gone", x.back(1), -2);
+        DUE.is("images are gone, 0", x.back(0), -2);
+        DUE.is("images are gone, 1", x.back(1), -2);
         DUE.is("nothing to undo", x.undo(), -2);
         DUE.is("the trace stays", x.trace(), 1);
         Due.type(x, "q5;p1 10;p1 10;");
@@ -195,6 +199,51 @@ public final class CourtTest {
         DUE.is("lies at first", x.person(0, 2), 0);
         DUE.is("not examined", x.pillow(4, 2), 0);
         DUE.is("nothing heard", x.heard(4, 0), 0);
+    }
+
+    /** Nothing of any earlier text comes back, however many were read in between. */
+    private static void readAgainAndAgain() {
+        PillowCourt x = Due.told("q6;p1 10;p2 10;p4 10;x0 1;x3 6;");
+        x.night(0);
+        DUE.is("fit(-1) of three", x.fit(-1), 3);
+        for (int i = 0; i < 4; i++) {
+            Due.type(x, "p2 10;");
+            DUE.is("court() again", x.court(), 1);
+            DUE.is("people", x.count(0), 1);
+            DUE.is("pillows", x.count(1), 3);
+            DUE.is("clashes(0)", x.clashes(0), 0);
+            DUE.is("clashes(6)", x.clashes(6), 0);
+            DUE.is("alone", x.now(4), 2);
+            DUE.is("whose", x.whose(0, 0), 2);
+            x.night(0);
+            DUE.is("fit(-1)", x.fit(-1), 1);
+            DUE.is("fit(0)", x.fit(0), 0);
+        }
+    }
+
+    private static void sixOfAll() {
+        PillowCourt x = Due.told("q6;p65 10;p66 10;p68 10;p72 10;p80 10;p96 10;x6 0;x5 6;");
+        DUE.is("alone", x.now(4), 63);
+        for (int p = 0; p < 6; p++) {
+            DUE.is("lies at first", x.person(p, 2), p);
+            DUE.is("safe where he alone lies", x.person(p, 3), 1 << p);
+            DUE.is("who lies there", x.pillow(p, 1), 1 << p);
+            DUE.is("in nights", x.inNights(0, 20, p), 64 + (1 << p));
+        }
+        DUE.is("night(0)", x.night(0), 6);
+        DUE.is("which(0)", x.which(0), 500);
+        for (int z = 1; z < 20; z++) {
+            x.night(z);
+        }
+        DUE.is("all heard", x.now(3), 127);
+        DUE.is("against", x.now(2), 2);
+        DUE.is("fit(-1)", x.fit(-1), 120);
+        DUE.is("looks()", x.looks(), 63);
+        DUE.is("whose(5, 0)", x.whose(5, 0), 32);
+        DUE.is("whose(5, 1)", x.whose(5, 1), 32);
+        x.lays(0, -1);
+        x.lays(1, 5);
+        DUE.is("safe for who lies on none", x.person(0, 3), 3);
     }
 
     private static void people() {

@@ -4,6 +4,7 @@ public final class KindsTest {
 
     public static void main(String[] args) {
         rates();
+        ratesOfAllThings();
         traces();
         ratesWrong();
         images();
@@ -34,6 +35,17 @@ public final class KindsTest {
         DUE.is("a bolster may be below 0", x.rate(2, 2), -2);
         DUE.is("a hotel's number", x.rate(4, 2), 0);
         DUE.is("an empty one", x.rate(4, 1), 1);
+    }
+
+    private static void ratesOfAllThings() {
+        PillowCourt x = Due.told("q1;p1 10;p64 10;");
+        x.lays(1, 0);
+        x.night(0);
+        x.night(0);
+        int[] wanted = {2, 6, 0, 12, 0, 4};
+        for (int kind = 0; kind < 6; kind++) {
+            DUE.is("rate(" + kind + ", 0)", x.rate(kind, 0), wanted[kind]);
+        }
     }
 
     private static void traces() {
