@@ -68,6 +68,10 @@ public final class CourtTest {
         DUE.is("clear() again", x.clear(), 0);
         Due.type(x, "q2;");
         DUE.is("court() behind clear()", x.court(), 1);
+        Due.type(x, "q123");
+        x.clear();
+        Due.type(x, "q1");
+        DUE.is("letters cleared are not read", x.court(), -12);
     }
 
     private static void goodTexts() {
@@ -131,6 +135,8 @@ public final class CourtTest {
         fault("p00 1;", 1);
         fault("p1 00;", 3);
         fault("p1 010;", 3);
+        fault("p1270 1;", 1);
+        fault("p1271 1;", 1);
         fault("p4294967297 1;", 1);
         fault("p" + "9".repeat(150) + " 1;", 1);
         fault("p1 " + "0".repeat(150) + ";", 3);
@@ -140,6 +146,7 @@ public final class CourtTest {
         fault("p1 ", 3);
         fault("x0 1", 4);
         fault("q1;p", 4);
+        fault(" ".repeat(198) + "q1", 200);
         // The first token that can't stand there, not the first strange letter.
         fault("p1 1 1; y", 5);
         fault("p1 1;; y", 5);
