@@ -16,6 +16,14 @@ final class Due {
         }
     }
 
+    void is(String call, String got, String want) {
+        asked++;
+        if (!got.equals(want)) {
+            wrong++;
+            System.out.println(title + ": " + call + " answered\n " + got + "\ndue is\n " + want);
+        }
+    }
+
     /** Prints what came out, and ends the program with 1 if an answer was wrong. */
     void end() {
         System.out.println(title + ": " + asked + " answers, " + wrong + " wrong");

@@ -86,7 +86,9 @@ public final class NightsTest {
         int many = 0;
         int least = -9;
         for (int z = 499; z >= 0; z--) {
-            if ((x.inNights(z, 1, 0) >> 3 & 1) == 1 && (x.inNights(z, 1, 1) & 1) == 0) {
+            int ofPillow0 = Said.bit(127, 5, 0, z, 0) | Said.bit(42, 3, 2, z, 0);
+            int ofPillow1 = Said.bit(85, 7, 1, z, 0);
+            if ((ofPillow0 >> 3 & 1) == 1 && (ofPillow1 & 1) == 0) {
                 many++;
                 least = z;
             }
