@@ -181,7 +181,8 @@ public final class CourtBoundsTest {
         told("p127 0;p127 0;").answers("both know all", x -> x.now(4), 0);
         told("p127 0;p0 0;").answers("the other one nothing", x -> x.now(4), 127);
         told("p127 0;p64 0;").answers("all but one", x -> x.now(4), 63);
-        told("p3 0;p3 0;p3 0;p7 0;").answers("three and four times is not once", x -> x.now(4), 4);
+        told("p3 0;p3 0;p7 0;").answers("three times is not once", x -> x.now(4), 4);
+        told("p3 0;p3 0;p3 0;p7 0;").answers("four times is not once", x -> x.now(4), 4);
     }
 
     private static void nowUndoneFrom0To10() {

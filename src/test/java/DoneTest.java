@@ -6,7 +6,6 @@ public final class DoneTest {
         lays();
         nights();
         draws();
-        lastNight();
         slips();
         mixes();
         atMost99();
@@ -75,19 +74,6 @@ public final class DoneTest {
         PillowCourt x = Due.told(text);
         x.night(z);
         return x.pillow(q, 0);
-    }
-
-    /** Nobody gets there within 512 calls; the class keeps to it all the same. */
-    private static void lastNight() {
-        PillowCourt x = Due.told("p1 10;");
-        for (int i = 0; i < 999; i++) {
-            x.night(i);
-        }
-        DUE.is("night 999", x.now(0), 999);
-        DUE.is("no night behind it", x.night(0), -2);
-        DUE.is("bad ahead of state", x.night(-1), -1);
-        DUE.is("heard 99 times at most", x.heard(0, 0), 99);
-        DUE.is("still looked ahead", x.inNights(0, 20, 0), 1);
     }
 
     private static void slips() {

@@ -11,6 +11,7 @@ public final class NightBoundsTest {
         inNightsOfAllThereAre();
         inNightsAbove9999();
         inNightsWithWhatWasHeard();
+        inNightsOfSeveralAtOnce();
         inNightsOfNobody();
         notesOfAllThereAre();
         notesFiveAtMost();
@@ -100,6 +101,22 @@ public final class NightBoundsTest {
         heard.answers("both lie there now", x -> x.inNights(0, 1, 1), 65);
         heard.then(x -> x.slips(0)).answers("a clean slip", x -> x.inNights(0, 20, 0), 0);
         heard.then(x -> x.lays(0, -1)).answers("on none", x -> x.inNights(0, 20, 1), 64);
+    }
+
+    /** What two say at once, or three, is heard as much as what one says. */
+    private static void inNightsOfSeveralAtOnce() {
+        for (int people = 1; people <= 6; people++) {
+            int many = people;
+            Story same = told("q1;" + "p8 10;".repeat(people)).then(x -> {
+                for (int p = 0; p < many; p++) {
+                    x.lays(p, 0);
+                }
+                x.notes(0, 3, 1);
+            });
+            same.answers("said by " + people + " in a night", x -> x.inNights(0, 1, 0), 8);
+            same.answers("said by " + people + " in two", x -> x.inNights(0, 2, 0), 8);
+            same.answers("which()", x -> x.which(0), 500);
+        }
     }
 
     private static void inNightsOfNobody() {

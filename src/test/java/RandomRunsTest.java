@@ -58,6 +58,9 @@ public final class RandomRunsTest {
     }
 
     private void ask(long seed, String call, int[] a) {
+        if (left == 0) {
+            return;
+        }
         left--;
         due.is("seed " + seed + ", " + left + " calls left: " + call + java.util.Arrays.toString(a), answer(call, a), y.ask(call, a));
     }

@@ -67,6 +67,8 @@ public final class TextBoundsTest {
         story().answers("people", x -> x.count(0), 0);
         story().answers("pillows", x -> x.count(1), 3);
         story().takes("new pillow(v, 0)", (x, v) -> x.pillow(v, 0), 0, 0, 2, 0);
+        story().takes("new pillow(v, 1)", (x, v) -> x.pillow(v, 1), 0, 0, 2, 0);
+        story().takes("new pillow(v, 2)", (x, v) -> x.pillow(v, 2), 0, 0, 2, 0);
         for (int what = 0; what < 4; what++) {
             int asked = what;
             story().changesNothing("new person(0, " + what + ")", x -> x.person(0, asked), -1);
